@@ -346,7 +346,7 @@ public final class BrushStrokes {
 
     // ---- rows and numbers
 
-    // Every single cell is read and written through these two, so that no index can ever be out of its row.
+    // What is no point of a stroke is read and written through these two, so that no index can be out of its row.
     private static int cell(int[] row, int index) {
         return index >= 0 && index < row.length ? row[index] : 0;
     }
@@ -394,16 +394,20 @@ public final class BrushStrokes {
             return size;
         }
 
+        // These look at the index themselves and not by cell(): they stand at the end of the deepest calls.
         int x(int index) {
-            return cell(numbers, NUMBERS * index);
+            int at = NUMBERS * index;
+            return at >= 0 && at < numbers.length ? numbers[at] : 0;
         }
 
         int y(int index) {
-            return cell(numbers, NUMBERS * index + 1);
+            int at = NUMBERS * index + 1;
+            return at >= 0 && at < numbers.length ? numbers[at] : 0;
         }
 
         int width(int index) {
-            return cell(numbers, NUMBERS * index + 2);
+            int at = NUMBERS * index + 2;
+            return at >= 0 && at < numbers.length ? numbers[at] : 0;
         }
 
         int kept() {
@@ -438,13 +442,20 @@ public final class BrushStrokes {
         }
 
         void putPoint(int index, int x, int y, int width) {
-            putCell(numbers, NUMBERS * index, x);
-            putCell(numbers, NUMBERS * index + 1, y);
-            putCell(numbers, NUMBERS * index + 2, width);
+            int at = NUMBERS * index;
+            if (at >= 0 && at < numbers.length - 2) {
+                numbers[at] = x;
+                numbers[at + 1] = y;
+                numbers[at + 2] = width;
+            }
         }
 
         void addPoint(int x, int y, int width) {
-            insertPoint(size, x, y, width);
+            if (size < MAX_POINTS) {
+                putPoint(size, x, y, width);
+                size++;
+                keepAll();
+            }
         }
 
         void insertPoint(int index, int x, int y, int width) {
@@ -497,18 +508,23 @@ public final class BrushStrokes {
             return size - 1;
         }
 
-        // ---- vectors: those from the point a to b, and from c to d
+        // ---- vectors
 
-        long product(int a, int b, int c, int d) {
-            return (long) (x(b) - x(a)) * (x(d) - x(c)) + (long) (y(b) - y(a)) * (y(d) - y(c));
+        long square(int from, int to) {
+            long across = x(to) - x(from);
+            long down = y(to) - y(from);
+            return across * across + down * down;
         }
 
-        long turn(int a, int b, int c, int d) {
-            return (long) (x(b) - x(a)) * (y(d) - y(c)) - (long) (y(b) - y(a)) * (x(d) - x(c));
+        /** The product of the vector to the point from the one before with the vector from it to the next one. */
+        long productAt(int before, int index, int next) {
+            return (long) (x(index) - x(before)) * (x(next) - x(index))
+                    + (long) (y(index) - y(before)) * (y(next) - y(index));
         }
 
-        long square(int a, int b) {
-            return product(a, b, a, b);
+        /** Above 0 on one side of the line, below 0 on the other, 0 on it. */
+        long sideOf(int index, int from, int to) {
+            return (long) (x(to) - x(from)) * (y(index) - y(from)) - (long) (y(to) - y(from)) * (x(index) - x(from));
         }
 
         // ---- distances
@@ -516,16 +532,19 @@ public final class BrushStrokes {
         // A squared distance from a segment is spread() / scale(), exactly; scale() depends on the segment alone, so
         // that the spreads of one segment compare as its distances do.
         long spread(int index, int from, int to) {
-            long along = product(from, index, from, to);
-            long scale = scale(from, to);
+            long u = x(index) - x(from);
+            long v = y(index) - y(from);
+            long c = x(to) - x(from);
+            long d = y(to) - y(from);
+            long along = u * c + v * d;
+            long square = c * c + d * d;
             if (along <= 0) {
-                return square(from, index) * scale;
+                return (u * u + v * v) * Math.max(square, 1L);
             }
-            if (along >= scale) {
-                return square(to, index) * scale;
+            if (along >= square) {
+                return ((u - c) * (u - c) + (v - d) * (v - d)) * square;
             }
-            long across = turn(from, index, from, to);
-            return across * across;
+            return (u * d - v * c) * (u * d - v * c);
         }
 
         // Without a length every spread is a whole squared distance already.
@@ -572,10 +591,6 @@ public final class BrushStrokes {
             return farthest;
         }
 
-        boolean staysWithin(int bound, int index, int from, int to) {
-            return spread(index, from, to) <= (long) bound * bound * scale(from, to);
-        }
-
         // ---- kinds of points
 
         boolean isEnd(int index) {
@@ -583,7 +598,7 @@ public final class BrushStrokes {
         }
 
         boolean isSharp(int before, int index, int next, int sharpness) {
-            long product = product(before, index, index, next);
+            long product = productAt(before, index, next);
             long squares = square(before, index) * square(index, next);
             return product < 0
                     || squares != 0 && product * product * 10000 < (long) sharpness * sharpness * squares;
@@ -651,8 +666,8 @@ public final class BrushStrokes {
         }
 
         private boolean areApart(int a, int b, int one, int other) {
-            long side = turn(a, b, a, one);
-            long otherSide = turn(a, b, a, other);
+            long side = sideOf(one, a, b);
+            long otherSide = sideOf(other, a, b);
             return side < 0 && otherSide > 0 || side > 0 && otherSide < 0;
         }
 
@@ -728,7 +743,7 @@ public final class BrushStrokes {
             for (int step = 0; step < 2 * MAX_POINTS && from < last; step++) {
                 int to = nextOf(kept, from, last);
                 int farthest = stroke.farthestBetween(from, to);
-                if (stroke.staysWithin(bound, farthest, from, to)) {
+                if (isWithin(bound, stroke.spread(farthest, from, to), stroke.scale(from, to))) {
                     from = to;
                 } else {
                     kept |= 1 << farthest;
@@ -758,12 +773,17 @@ public final class BrushStrokes {
         }
 
         private int leastWithin(Stroke stroke, int from, int to) {
-            int farthest = stroke.farthestBetween(from, to);
+            long spread = stroke.spread(stroke.farthestBetween(from, to), from, to);
+            long scale = stroke.scale(from, to);
             int bound = 0;
-            while (bound <= MAX_BOUND && !stroke.staysWithin(bound, farthest, from, to)) {
+            while (bound <= MAX_BOUND && !isWithin(bound, spread, scale)) {
                 bound++;
             }
             return bound;
+        }
+
+        private static boolean isWithin(int bound, long spread, long scale) {
+            return spread <= (long) bound * bound * scale;
         }
 
         // Of several sets with as few points, the one with the lowest point before the last is the least number: it
@@ -1030,12 +1050,23 @@ public final class BrushStrokes {
             if (digits == 0) {
                 return false;
             }
-            switch (code) {
-                case ',': return readsComma();
-                case 'w': return readsWidthSign();
-                case ';': return readsSemicolon();
-                default: return false;
+            if (code == ',' && part == X_PART) {
+                x = number;
+                beginPart(Y_PART);
+                return true;
             }
+            if (code == 'w' && part == Y_PART) {
+                y = number;
+                beginPart(WIDTH_PART);
+                return true;
+            }
+            // the point behind the sign needs room too
+            if (code == ';' && part != X_PART && told.size() + 1 < MAX_POINTS) {
+                endPoint();
+                beginPart(X_PART);
+                return true;
+            }
+            return false;
         }
 
         private boolean readsDigit(int digit) {
@@ -1048,34 +1079,6 @@ public final class BrushStrokes {
             }
             number = longer;
             digits++;
-            return true;
-        }
-
-        private boolean readsComma() {
-            if (part != X_PART) {
-                return false;
-            }
-            x = number;
-            beginPart(Y_PART);
-            return true;
-        }
-
-        private boolean readsWidthSign() {
-            if (part != Y_PART) {
-                return false;
-            }
-            y = number;
-            beginPart(WIDTH_PART);
-            return true;
-        }
-
-        private boolean readsSemicolon() {
-            // the point behind the sign needs room too
-            if (part == X_PART || told.size() + 1 >= MAX_POINTS) {
-                return false;
-            }
-            endPoint();
-            beginPart(X_PART);
             return true;
         }
 

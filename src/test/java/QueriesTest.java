@@ -40,7 +40,7 @@ public final class QueriesTest {
     }
 
     private static void promise17Kinds() {
-        // p = 300, q = 900 * 500: 9 * 10^4 * 10^4 is less than 45 * 45 * 45 * 10^4, but not than 44 * 44 * 45 * 10^4
+        // p = 300, q = 900 * 500: p * p * 10000 is less than 45 * 45 * q, but not than 44 * 44 * q
         BrushStrokes on = Check.sheet("0,0;30,0;40,20");
         on.set(1, 45);
         Check.due("17: a corner", on.point(0, 1, 4), 2);
@@ -67,6 +67,12 @@ public final class QueriesTest {
         Check.due("17: both", thin.point(0, 5, 4), 6);
         thin.set(2, 5);
         Check.due("17: with the setting now", thin.point(0, 1, 4), 0);
+        BrushStrokes ends = Check.sheet("0,0w9;10,0w9;20,0w1;10,0w9");
+        Check.due("17: both", ends.point(0, 2, 4), 6);
+        ends.remove(0, 3);
+        Check.due("17: an end is nothing else", ends.point(0, 2, 4), 1);
+        ends.change(0, 0, 0, 0, 1);
+        Check.due("17: an end is nothing else", ends.point(0, 0, 4), 1);
     }
 
     private static void promise17Stray() {
@@ -160,22 +166,23 @@ public final class QueriesTest {
         Check.due("20: neighbours", Check.sheet("0,0;20,0;10,0").crossings(0), 0);
         Check.due("20: a star", Check.sheet("50,0;20,90;99,30;0,30;80,90;50,0").crossings(0), 5);
         Check.due("20: beside", Check.sheet("0,10;10,10;30,30;50,0;50,20").crossings(0), 0);
-        BrushStrokes on = Check.sheet("0,0;20,20;21,0;10,2;0,0;0,20;30,10");
-        Check.due("20: of all", on.crossings(0), 2);
-        on.set(1, 0);
-        on.set(0, 50);
-        on.set(2, 20);
-        on.simplify(0, 0);
-        Check.due("20: among the kept points", on.crossings(0), crossingsOfBaked(on));
+        // the last segment ends between the bump and the segment that is left of it
+        keptCrossings("0,20;20,23;40,20;40,40;22,40;22,21", 1, 0);
+        keptCrossings("22,21;22,40;40,40;40,20;20,23;0,20", 1, 0);
+        keptCrossings("0,20;20,17;40,20;40,40;22,40;22,19", 0, 1);
+        keptCrossings("22,19;22,40;40,40;40,20;20,17;0,20", 0, 1);
+        BrushStrokes on = Check.sheet("0,0;20,20;20,0;0,20");
         Check.fails("20: stroke 1", on, Check.INDEX, () -> on.crossings(1));
         Check.fails("20: stroke -1", on, Check.INDEX, () -> on.crossings(-1));
     }
 
-    private static int crossingsOfBaked(BrushStrokes on) {
+    private static void keptCrossings(String text, int before, int behind) {
+        BrushStrokes on = Check.sheet(text);
+        Check.due("20: of all points", on.crossings(0), before);
+        Check.due("20: one point is not kept", on.simplify(0, 0), 5);
+        Check.due("20: of the kept points", on.crossings(0), behind);
         on.bake(0);
-        int crossings = on.crossings(0);
-        on.undo();
-        return crossings;
+        Check.due("20: of these points alone", on.crossings(0), behind);
     }
 
     private static void promise21Count() {
@@ -288,6 +295,10 @@ public final class QueriesTest {
         most.set(1, 0);
         Check.due("25: under 50", most.leastBound(0, 2, 1), 45);
         most.change(0, 0, 0, 0, 5);
+        most.change(0, 2, 99, 57, 5);
+        Check.due("25: 49.4", most.leastBound(0, 2, 0), 50);
+        Check.due("25: 49.4", most.leastBound(0, 2, 1), 50);
+        most.change(0, 2, 99, 58, 5);
         Check.due("25: above 50", most.leastBound(0, 2, 0), BrushStrokes.NONE);
         Check.due("25: above 50", most.leastBound(0, 2, 1), BrushStrokes.NONE);
         for (int bad : new int[] {-1, 1, 25, Integer.MIN_VALUE, Integer.MAX_VALUE}) {
