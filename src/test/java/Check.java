@@ -1,4 +1,5 @@
 import java.util.function.IntSupplier;
+import java.util.function.Supplier;
 
 /** What the tests share: they note every answer that is not due, and end with exit code 1 if there was one. */
 final class Check {
@@ -7,8 +8,16 @@ final class Check {
     static final Class<? extends RuntimeException> ARGUMENT = IllegalArgumentException.class;
     static final Class<? extends RuntimeException> STATE = IllegalStateException.class;
 
+    private static final int[] FAR_AWAY = {Integer.MIN_VALUE, Integer.MIN_VALUE + 1, -100, 1000, Integer.MAX_VALUE};
+
     private static int checks = 0;
     private static int wrong = 0;
+    private static String sentence = "";
+
+    /** A call with one number that is tried in and out of its range. */
+    interface Call {
+        int on(BrushStrokes sheet, int number);
+    }
 
     private Check() {
     }
@@ -17,8 +26,56 @@ final class Check {
         checks++;
         if (!want.equals(got)) {
             wrong++;
-            System.out.println(what + " answered " + got + ", due is " + want);
+            System.out.println((sentence.isEmpty() ? "" : sentence + "\n    ") + what + " answered " + got + ", due is " + want);
         }
+    }
+
+    /** The test of one sentence of the document; its answers are printed with the sentence, and it asks for some. */
+    static void sentence(String said, Runnable test) {
+        sentence = said;
+        int before = checks;
+        try {
+            test.run();
+        } catch (RuntimeException e) {
+            due("the test", e.toString(), "ends");
+        }
+        due("the test asks for something", checks > before, true);
+        sentence = "";
+    }
+
+    /** Every number of the range is taken; those beside it and far away are refused with this. */
+    static void range(String what, Supplier<BrushStrokes> fresh, int least, int greatest,
+            Class<? extends RuntimeException> refused, Call call) {
+        for (int number = least; number <= greatest; number++) {
+            BrushStrokes on = fresh.get();
+            int taken = number;
+            due(what + " " + number, answer(() -> call.on(on, taken)).startsWith("throws"), false);
+        }
+        BrushStrokes on = fresh.get();
+        fails(what + " " + (least - 1), on, refused, () -> call.on(on, least - 1));
+        fails(what + " " + (greatest + 1), on, refused, () -> call.on(on, greatest + 1));
+        for (int far : FAR_AWAY) {
+            fails(what + " " + far, on, refused, () -> call.on(on, far));
+        }
+    }
+
+    /** The call saves the state from before it. */
+    static void undoable(String what, BrushStrokes on, IntSupplier call) {
+        String before = stateFace(on);
+        int saved = on.count(5);
+        call.getAsInt();
+        due(what + ": saved states", on.count(5), Math.min(6, saved + 1));
+        due(what + ": saved states after undo()", on.undo(), Math.min(5, saved));
+        due(what + ": undone", stateFace(on), before);
+    }
+
+    /** The call saves no state. */
+    static void notUndoable(String what, BrushStrokes on, IntSupplier call) {
+        on.set(3, on.setting(3));
+        int saved = on.count(5);
+        call.getAsInt();
+        due(what + ": saved states", on.count(5), saved);
+        on.undo();
     }
 
     /** The call throws exactly this, and changes nothing that can be seen. */
@@ -38,14 +95,19 @@ final class Check {
 
     /** All that the queries tell, but for distances and what would be. */
     static String face(BrushStrokes on) {
+        return on.count(5) + " " + on.count(6) + " " + on.firstError() + " " + stateFace(on);
+    }
+
+    /** What the queries tell of the state: all but the saved ones and the buffer. */
+    static String stateFace(BrushStrokes on) {
         StringBuilder all = new StringBuilder();
-        for (int what = 0; what <= 6; what++) {
+        for (int what = 0; what <= 4; what++) {
             all.append(on.count(what)).append(' ');
         }
         for (int setting = 0; setting <= 3; setting++) {
             all.append(on.setting(setting)).append(' ');
         }
-        all.append(on.firstError()).append(' ').append(on.share());
+        all.append(on.share());
         for (int stroke = 0; stroke < on.count(0); stroke++) {
             all.append("\n ").append(strokeFace(on, stroke));
         }

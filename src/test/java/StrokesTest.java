@@ -23,7 +23,7 @@ public final class StrokesTest {
 
     private static void promise1New() {
         BrushStrokes on = new BrushStrokes();
-        Check.due("1: a new sheet", Check.face(on), "0 0 0 0 0 0 0 3 50 4 20 0 1.0");
+        Check.due("1: a new sheet", Check.face(on), "0 0 0 0 0 0 0 0 3 50 4 20 1.0");
         Check.fails("1: nothing to undo", on, Check.STATE, () -> on.undo());
         Check.fails("1: slot 0 is empty", on, Check.STATE, () -> on.goBack(0));
         Check.fails("1: slot 1 is empty", on, Check.STATE, () -> on.goBack(1));
