@@ -69,13 +69,23 @@ final class Check {
         due(what + ": undone", stateFace(on), before);
     }
 
-    /** The call saves no state. */
+    /** The call saves no state, and forgets none, also where six are saved. */
     static void notUndoable(String what, BrushStrokes on, IntSupplier call) {
-        on.set(3, on.setting(3));
+        int join = on.setting(3);
+        on.set(3, join == 0 ? 1 : join - 1);
         int saved = on.count(5);
         call.getAsInt();
         due(what + ": saved states", on.count(5), saved);
         on.undo();
+        due(what + ": the state that was saved last", on.setting(3), join);
+    }
+
+    /** A query: nothing changes that can be seen, and no state is saved. */
+    static void changesNothing(String what, BrushStrokes on, IntSupplier call) {
+        String before = face(on);
+        call.getAsInt();
+        due(what + ": the state behind it", face(on), before);
+        notUndoable(what, on, call);
     }
 
     /** The call throws exactly this, and changes nothing that can be seen. */

@@ -76,12 +76,6 @@ public final class QueriesSentencesTest {
         }
     }
 
-    private static void changesNothing(String what, BrushStrokes on, Check.Call call, int number) {
-        String before = Check.face(on);
-        call.on(on, number);
-        Check.due(what + " changes nothing", Check.face(on), before);
-    }
-
     // ---- promise 17
 
     private static void point() {
@@ -90,7 +84,8 @@ public final class QueriesSentencesTest {
                 BrushStrokes on = Check.sheet("1,2w3;4,5w6;7,8w9");
                 Check.due("each its own", on.point(0, 0, 0) * 100 + on.point(0, 1, 1) * 10 + on.point(0, 2, 2), 159);
                 for (int what = 0; what <= 5; what++) {
-                    changesNothing("what " + what, on, (sheet, number) -> sheet.point(0, 1, number), what);
+                    int number = what;
+                    Check.changesNothing("what " + what, on, () -> on.point(0, 1, number));
                 }
             })
             .says(ITS_NUMBER, () -> {
@@ -163,7 +158,8 @@ public final class QueriesSentencesTest {
             .says("Returns a number of a stroke.", () -> {
                 BrushStrokes on = dropped("0,0;10,1;20,0");
                 for (int what = 0; what <= 10; what++) {
-                    changesNothing("what " + what, on, (sheet, number) -> sheet.strokeOf(0, number), what);
+                    int number = what;
+                    Check.changesNothing("what " + what, on, () -> on.strokeOf(0, number));
                 }
             })
             .says(ITS_NUMBER, () -> {
@@ -289,6 +285,7 @@ public final class QueriesSentencesTest {
         joins("hardly bent", "0,0;50,0;99,1", 100, 1);
         joins("at one place", "0,0;20,0;20,0;20,20", 100, 0);
         joins("no ends", "0,0;20,20", 100, 0);
+        joins("a waist", "0,0w9;20,0w5;40,0w9", 100, 0);
         joins("all but the ends", "0,0;20,0;0,0;20,0;0,0", 20, 3);
         BrushStrokes on = Check.sheet("0,0;20,0;20,20;40,20;60,40");
         on.set(1, 100);
@@ -331,9 +328,7 @@ public final class QueriesSentencesTest {
                 Check.due("itself at the end", on.distance(0, 2, 1, 2), 0);
                 on.stroke(50, 50, 60, 60);
                 Check.due("of its stroke", on.distance(1, 0, 1, 1), 1414);
-                String before = Check.face(on);
-                on.distance(0, 3, 0, 1);
-                Check.due("nothing changes", Check.face(on), before);
+                Check.changesNothing("distance()", on, () -> on.distance(0, 3, 0, 1));
             })
             .says(ITS_NUMBER, () -> {
                 BrushStrokes on = strokes(4);
@@ -362,7 +357,7 @@ public final class QueriesSentencesTest {
                     Check.range("to", () -> points(size), 0, size - 1, Check.INDEX, (on, to) -> on.distance(0, 0, 1, to));
                 }
                 BrushStrokes on = points(24);
-                Check.due("point 23", on.distance(0, 0, 22, 23), 4500);
+                Check.due("point 23", on.distance(0, 23, 22, 23), 0);
             })
             .says("Returns the distance in hundredths.", () -> {
                 BrushStrokes on = Check.sheet("0,0;99,99;99,0;1,0;5,1;3,4");
@@ -416,9 +411,7 @@ public final class QueriesSentencesTest {
                 Check.due("all at one place, as pairs", Check.sheet("0,10;20,10;20,0;0,20;0,0;20,20").crossings(0), 3);
                 Check.due("of 23 segments", Check.sheet(STAR).crossings(0), 230);
                 BrushStrokes on = Check.sheet(STAR);
-                String before = Check.face(on);
-                on.crossings(0);
-                Check.due("nothing changes", Check.face(on), before);
+                Check.changesNothing("crossings()", on, () -> on.crossings(0));
             })
             .says(NO_STROKE, () -> noStrokes((on, number) -> on.crossings(number)))
             .end();
@@ -453,6 +446,14 @@ public final class QueriesSentencesTest {
         Check.due("of all points, as all are kept", other.crossings(0), 0);
         other.simplify(0, 0);
         Check.due("of the kept points", other.crossings(0), 1);
+        // the point 1 or 3 lies on a segment that is crossed behind it
+        for (String text : new String[] {"0,10;5,10;20,10;20,0;10,20", "0,10;18,10;20,10;20,0;10,20", "0,10;20,10;20,0;18,4;10,20",
+            "0,10;20,10;20,0;12,16;10,20"}) {
+            BrushStrokes once = smooth(text);
+            once.set(0, 0);
+            Check.due("four are kept of " + text, once.simplify(0, 0), 4);
+            Check.due("crossings of " + text, once.crossings(0), 1);
+        }
         // the segments from 0 to 2 and from 2 to 4 are neighbours, though 0 to 1 and 3 to 4 were not
         BrushStrokes neighbours = smooth("0,0w9;20,1w9;40,0w1;20,0w9;1,2w9");
         neighbours.set(0, 5);
@@ -467,7 +468,8 @@ public final class QueriesSentencesTest {
             .says("Returns a number.", () -> {
                 BrushStrokes on = dropped("0,0;10,0;20,0");
                 for (int what = 0; what <= 6; what++) {
-                    changesNothing("what " + what, on, (sheet, number) -> sheet.count(number), what);
+                    int number = what;
+                    Check.changesNothing("what " + what, on, () -> on.count(number));
                 }
             })
             .says("`what`: 0 the strokes, 1 the points of all strokes, 2 the kept points of all strokes, 3 how often a stroke was "
@@ -564,7 +566,8 @@ public final class QueriesSentencesTest {
             .says("Returns a setting.", () -> {
                 BrushStrokes on = new BrushStrokes();
                 for (int k = 0; k < 4; k++) {
-                    changesNothing("setting " + k, on, (sheet, number) -> sheet.setting(number), k);
+                    int number = k;
+                    Check.changesNothing("setting " + k, on, () -> on.setting(number));
                 }
             })
             .says("`setting`: 0 to 3", () -> Check.range("setting", BrushStrokes::new, 0, 3, Check.INDEX,
@@ -652,9 +655,7 @@ public final class QueriesSentencesTest {
         Check.due("over the greatest distance", Check.sheet("0,0;0,1").nearest(99, 99), 1);
         BrushStrokes notKept = dropped("0,0;10,0;20,0");
         Check.due("points that are not kept too", notKept.strokeOf(0, 1) * 10 + notKept.nearest(10, 0), 21);
-        String before = Check.face(notKept);
-        notKept.nearest(5, 5);
-        Check.due("nothing changes", Check.face(notKept), before);
+        Check.changesNothing("nearest()", notKept, () -> notKept.nearest(5, 5));
     }
 
     // ---- promise 24
@@ -669,8 +670,8 @@ public final class QueriesSentencesTest {
                 }
                 BrushStrokes on = dropped("0,0;10,3;20,0;30,3;40,0");
                 on.set(0, 7);
-                changesNothing("way 0", on, (sheet, bound) -> sheet.ifSimplified(0, bound, 0), 2);
-                changesNothing("way 1", on, (sheet, bound) -> sheet.ifSimplified(0, bound, 1), 2);
+                Check.changesNothing("way 0", on, () -> on.ifSimplified(0, 2, 0));
+                Check.changesNothing("way 1", on, () -> on.ifSimplified(0, 2, 1));
                 Check.due("from all its points", on.ifSimplified(0, 2, 0), 3);
                 on.set(1, 100);
                 Check.due("the corners as they are now", on.ifSimplified(0, 50, 0), 5);
@@ -682,7 +683,8 @@ public final class QueriesSentencesTest {
                 }
                 on.set(1, 0);
                 for (int k = 0; k < 4; k++) {
-                    Check.due("stroke " + k, on.ifSimplified(k, 1, 0), k < 2 ? 2 : 3);
+                    Check.due("stroke " + k + ", near enough", on.ifSimplified(k, k, 0), 2);
+                    Check.due("stroke " + k + ", not near enough", on.ifSimplified(k, Math.max(k - 1, 0), 0), k == 0 ? 2 : 3);
                 }
             })
             .says("`bound`: 0 to 50, in place of the setting 0", () -> {
@@ -791,9 +793,9 @@ public final class QueriesSentencesTest {
     private static void leastBounds() {
         for (String text : new String[] {"0,0;10,3;20,0;30,3;40,0", "0,0;10,0;20,3;30,3;40,0", "0,0w9;10,0w5;20,9w9;20,30w9;0,30w9",
             "0,50;10,20;20,70;30,30;40,60;50,40;60,50;70,20;80,50", STAR}) {
-            BrushStrokes on = smooth(text);
             for (int way = 0; way < 2; way++) {
                 for (int many = 2; many <= 24; many++) {
+                    BrushStrokes on = smooth(text);
                     Check.due(text + ", " + many + ", way " + way, on.leastBound(0, many, way), leastByTrying(on, many, way));
                 }
             }
@@ -803,8 +805,8 @@ public final class QueriesSentencesTest {
         on.set(0, 50);
         on.simplify(0, 0);
         Check.due("neither the setting 0 nor the kept points matter", on.leastBound(0, 2, 0) * 10 + on.leastBound(0, 2, 1), 33);
-        changesNothing("way 0", on, (sheet, many) -> sheet.leastBound(0, many, 0), 2);
-        changesNothing("way 1", on, (sheet, many) -> sheet.leastBound(0, many, 1), 2);
+        Check.changesNothing("way 0", on, () -> on.leastBound(0, 2, 0));
+        Check.changesNothing("way 1", on, () -> on.leastBound(0, 2, 1));
         on.set(1, 100);
         Check.due("the corners as they are now", on.leastBound(0, 2, 1), BrushStrokes.NONE);
     }
@@ -825,9 +827,7 @@ public final class QueriesSentencesTest {
             .says("Returns the share of points that are kept.", () -> {
                 BrushStrokes on = dropped("0,0;10,0;20,0;30,0");
                 Check.due("half of them", on.share(), 0.5);
-                String before = Check.face(on);
-                on.share();
-                Check.due("nothing changes", Check.face(on), before);
+                Check.changesNothing("share()", on, () -> (int) on.share());
                 on.bake(0);
                 Check.due("all that are left", on.share(), 1.0);
             })

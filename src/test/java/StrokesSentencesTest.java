@@ -529,10 +529,13 @@ public final class StrokesSentencesTest {
                         Check.due("all are there", on.strokeOf(0, 0), 5);
                     }
                 }
-                on.set(0, 50);
-                on.simplify(0, 0);
-                on.set(1, 100);
-                Check.due("corners of all points, not of the kept ones", on.simplify(0, 1), 5);
+                for (int way = 0; way < 2; way++) {
+                    on.set(0, 50);
+                    on.set(1, 0);
+                    on.simplify(0, way);
+                    on.set(1, 100);
+                    Check.due("corners of all points, not of the kept ones", on.simplify(0, way), 5);
+                }
             })
             .says("Undoable.", () -> {
                 for (int way = 0; way < 2; way++) {

@@ -382,6 +382,8 @@ public final class TermsSentencesTest {
         kind("neither", "10,10;10,10;10,10", 100, 0);
         kind("p * p * 10000 is 60 * 60 * q", "0,0;20,0;50,40", 60, 0);
         kind("p * p * 10000 is 60 * 60 * q", "0,0;20,0;50,40", 61, 2);
+        kind("p * p * 10000 is a little less than 53 * 53 * q", "0,0;20,0;25,8", 53, 2);
+        kind("p * p * 10000 is a little more than 29 * 29 * q", "0,0;20,0;30,33", 29, 0);
         kind("straight on", "0,0;10,20;20,40", 100, 0);
         kind("straight on, and far", "0,0;49,49;99,99", 100, 0);
         kind("hardly bent", "0,0;50,0;99,1", 100, 2);
@@ -517,7 +519,11 @@ public final class TermsSentencesTest {
         Check.due("points of another stroke", other.strokeOf(0, 10), 0b1001);
         other.stroke(0, 0, 9, 9);
         other.erase(1);
-        Check.due("another stroke goes", other.strokeOf(0, 10), 0b1001);
+        Check.due("a stroke behind it goes", other.strokeOf(0, 10), 0b1001);
+        Check.draw(other, "0,0;10,0;20,0");
+        other.simplify(2, 0);
+        other.erase(1);
+        Check.due("a stroke before it goes", other.strokeOf(1, 10), 0b101);
     }
 
     private static void strays() {
@@ -740,10 +746,10 @@ public final class TermsSentencesTest {
         BrushStrokes on = new BrushStrokes();
         Check.due("17 points", Check.draw(on, SEVENTEEN), 0);
         Check.due("17 points", on.strokeOf(0, 0), 17);
-        for (String text : new String[] {"", "0,0", "0,0;", "0,0;0", "0,0;0,", "0,0;0,0;", "0,0;0,0w", "0;0", "0,0,0,0", "0,0 0,0",
+        for (String text : new String[] {"", "0,0", "0,0;", "0,0;0", "0,0;0,", "0,0;0,0;", "0,0;0,0w", "0;0", "0,0,0,0", "0,0_0,0",
             "0,0w;0,0", "w5;0,0", "0w5;0,0", "0,0w5w5;0,0", "0,0;0,0w5;", ",0;0,0", "0,;0,0", "0,0;;0,0", ";0,0;0,0", "0,0W5;0,0",
             "0.0;0.0", "0,0:0,0", "+0,0;0,0", "0,0;0,0.", "0,0;0,0,"}) {
-            incomplete(text.replace(' ', '_'));
+            incomplete(text);
         }
     }
 
@@ -828,9 +834,9 @@ public final class TermsSentencesTest {
 
     private static void changeEverything(BrushStrokes on) {
         on.set(0, 1);
+        on.simplify(0, 1);
         on.set(3, 99);
         on.change(0, 0, 50, 50, 7);
-        on.simplify(0, 1);
         on.erase(1);
     }
 
@@ -875,13 +881,19 @@ public final class TermsSentencesTest {
         Check.undoable("goBack() to what is", on, () -> on.goBack(0));
         on.bake(0);
         Check.undoable("bake() of all kept", on, () -> on.bake(0));
-        int saved = on.count(5);
-        Check.fails("change()", on, Check.ARGUMENT, () -> on.change(0, 0, 0, 0, 0));
-        Check.fails("erase()", on, Check.INDEX, () -> on.erase(1));
-        Check.fails("set()", on, Check.INDEX, () -> on.set(4, 0));
-        Check.fails("goBack()", on, Check.STATE, () -> on.goBack(1));
-        Check.fails("draw()", on, Check.ARGUMENT, () -> on.draw());
-        Check.due("none of these saved a state", on.count(5), saved);
+        BrushStrokes two = new BrushStrokes();
+        two.stroke(0, 0, 9, 9);
+        Check.fails("stroke()", two, Check.ARGUMENT, () -> two.stroke(0, 0, 0, 100));
+        Check.fails("draw()", two, Check.ARGUMENT, () -> two.draw());
+        Check.fails("insert()", two, Check.INDEX, () -> two.insert(0, 3, 0, 0, 5));
+        Check.fails("change()", two, Check.ARGUMENT, () -> two.change(0, 0, 0, 0, 0));
+        Check.fails("remove()", two, Check.STATE, () -> two.remove(0, 0));
+        Check.fails("erase()", two, Check.INDEX, () -> two.erase(1));
+        Check.fails("simplify()", two, Check.ARGUMENT, () -> two.simplify(0, 2));
+        Check.fails("bake()", two, Check.INDEX, () -> two.bake(1));
+        Check.fails("set()", two, Check.INDEX, () -> two.set(4, 0));
+        Check.fails("goBack()", two, Check.STATE, () -> two.goBack(1));
+        Check.due("none of these saved a state", two.count(5), 1);
     }
 
     private static void sixStates() {
