@@ -918,12 +918,12 @@ public final class BrushStrokes {
 
         int nearestPoint(int x, int y) {
             int nearest = NONE;
-            int least = Integer.MAX_VALUE;
+            int least = 0;
             for (int number = 0; number < strokeCount; number++) {
                 Stroke stroke = strokeAt(number);
                 for (int k = 0; k < stroke.size(); k++) {
                     int square = stroke.squareTo(k, x, y);
-                    if (square < least) {
+                    if (nearest == NONE || square < least) {
                         least = square;
                         nearest = 100 * number + k;
                     }
